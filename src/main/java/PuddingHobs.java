@@ -767,30 +767,25 @@ public final class PuddingHobs {
             }
         }
 
-        /** One hour; false if it moved nothing, and then no hour behind it would, as none is stirred any more. */
+        /** One hour; false if none grew in it: then none will, as none is stirred any more, and none will burst. */
         boolean boil() {
-            boolean moved = false;
+            boolean grew = false;
             for (int b = 0; b < size; b++) {
                 int growth = growthOf(b);
                 if (growth > 0) {
                     raise(b, growth);
-                    moved = true;
+                    grew = true;
                 }
             }
             stirredSet = 0;
-            hour++;
-            int burstBefore = burstSet;
-            burstInRounds();
-            return moved || burstSet != burstBefore;
-        }
-
-        private void burstInRounds() {
             int bursting = aboveCloth();
             for (int round = 0; bursting != 0 && round < MOST_BASINS; round++) {
                 burstSet |= bursting;
                 pushNeighbours(bursting);
                 bursting = aboveCloth();
             }
+            hour++;
+            return grew;
         }
 
         private int aboveCloth() {
@@ -940,6 +935,8 @@ public final class PuddingHobs {
     private static final class Foresight {
         static final int MOST_TOLD = 12;
         private static final int MOST_STIRS = 20, MOST_STEPS = 100;
+        private static final int[] LEAST_TRIED = {1, 0, 0, 5, 5};
+        private static final int[] MOST_TRIED = {5, 20, 9, 60, 60};
         private static final long FACTOR = 16807L, MODULUS = 2147483647L;
 
         private final Hob now;
@@ -991,8 +988,7 @@ public final class PuddingHobs {
                 for (int s = 0; s < stirs; s++) {
                     trial.stirOnce(basin);
                 }
-                boilTrial(n);
-                if (!trial.isBurst(basin)) {
+                if (!trialBursts(basin, n)) {
                     return stirs;
                 }
             }
@@ -1045,54 +1041,34 @@ public final class PuddingHobs {
             return NONE;
         }
 
-        /** By what is told of n hours: what is 0 kinds, 1 plums, 2 heats, 3 how many cloths, 4 the least one. */
+        /** By what is told of n hours: what is 0 kinds, 1 plums, 2 heats (bits), 3 how many cloths, 4 the least one. */
         int fitting(int basin, int n, int what) {
             int fitSet = 0;
-            switch (what) {
-                case 0:
-                    for (int kind = Hob.PLAIN; kind <= Hob.BRANDY; kind++) {
-                        beginTrial();
-                        trial.kinds[basin] = kind;
-                        fitSet |= bitIfTold(kind, basin, n);
-                    }
-                    return fitSet;
-                case 1:
-                    for (int plums = 0; plums <= Hob.MOST_PLUMS; plums++) {
-                        beginTrial();
-                        trial.plums[basin] = plums;
-                        fitSet |= bitIfTold(plums, basin, n);
-                    }
-                    return fitSet;
-                case 2:
-                    for (int heat = 0; heat <= Hob.MOST_HEAT; heat++) {
-                        beginTrial();
-                        trial.heat = heat;
-                        fitSet |= bitIfTold(heat, basin, n);
-                    }
-                    return fitSet;
-                default:
-                    return fittingCloths(basin, n, what);
-            }
-        }
-
-        private int fittingCloths(int basin, int n, int what) {
+            int many = 0;
             int least = NONE;
-            int cloths = 0;
-            for (int cloth = Hob.LEAST_CLOTH; cloth <= Hob.MOST_CLOTH; cloth++) {
+            for (int v = LEAST_TRIED[what]; v <= MOST_TRIED[what]; v++) {
                 beginTrial();
-                trial.cloth = cloth;
+                alterTrial(basin, what, v);
                 if (trialIsAsTold(basin, n)) {
-                    cloths++;
-                    if (least == NONE) {
-                        least = cloth;
-                    }
+                    fitSet |= 1 << v;
+                    least = many == 0 ? v : least;
+                    many++;
                 }
             }
-            return what == 3 ? cloths : least;
+            switch (what) {
+                case 3: return many;
+                case 4: return least;
+                default: return fitSet;
+            }
         }
 
-        private int bitIfTold(int bit, int basin, int n) {
-            return trialIsAsTold(basin, n) ? 1 << bit : 0;
+        private void alterTrial(int basin, int what, int v) {
+            switch (what) {
+                case 0: trial.kinds[basin] = v; break;
+                case 1: trial.plums[basin] = v; break;
+                case 2: trial.heat = v; break;
+                default: trial.cloth = v;
+            }
         }
 
         private boolean trialIsAsTold(int basin, int n) {
@@ -1136,8 +1112,7 @@ public final class PuddingHobs {
                     trial.swells[b] = 0;
                 }
             }
-            boilTrial(n);
-            return trial.isBurst(basin);
+            return trialBursts(basin, n);
         }
 
         private static int greatestDivisor(int one, int other) {
@@ -1180,24 +1155,26 @@ public final class PuddingHobs {
         }
 
         private void boilTrial(int n) {
-            for (int h = 0; h < n; h++) {
-                if (!trial.boil()) {
-                    return;
-                }
+            boolean grew = true;
+            for (int h = 0; h < n && grew; h++) {
+                grew = trial.boil();
             }
         }
 
-        private boolean trialBurstsNone(int n) {
-            for (int h = 0; h < n; h++) {
-                boolean moved = trial.boil();
-                if (trial.burstSet != now.burstSet) {
-                    return false;
-                }
-                if (!moved) {
-                    return true;
-                }
+        private boolean trialBursts(int basin, int n) {
+            boolean grew = true;
+            for (int h = 0; h < n && grew && !trial.isBurst(basin); h++) {
+                grew = trial.boil();
             }
-            return true;
+            return trial.isBurst(basin);
+        }
+
+        private boolean trialBurstsNone(int n) {
+            boolean grew = true;
+            for (int h = 0; h < n && grew && trial.burstSet == now.burstSet; h++) {
+                grew = trial.boil();
+            }
+            return trial.burstSet == now.burstSet;
         }
     }
 

@@ -35,6 +35,8 @@ public final class ActsTest {
         x.heat(1);
         Check.dueAll("glow at heat 1", Check.ofEach(x, 5), 1, 0, 0, 0, 0);
         Check.dueAll("growth at heat 1", Check.ofEach(x, 6), 1, 0, 0, 0, 0);
+        x.hours(1);
+        Check.dueAll("swells at heat 1", Check.swells(x), 19, 21, 8, 7, 12);
     }
 
     private static void rounds() {
@@ -118,6 +120,8 @@ public final class ActsTest {
         Check.due("off it is", x.on(2, 0), Check.STATE);
         Check.due("glow off", x.basin(2, 5), 0);
         Check.due("growth off", x.basin(2, 6), 0);
+        Check.dueAll("on", Check.ofEach(x, 3), 1, 1, 0);
+        Check.dueAll("burst", Check.ofEach(x, 4), 0, 0, 0);
         Check.due("on", x.on(2, 1), 0b111);
         Check.due("on 2", x.on(0, 2), Check.BAD);
         Check.due("on -1", x.on(0, -1), Check.BAD);

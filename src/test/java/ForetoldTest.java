@@ -75,6 +75,8 @@ public final class ForetoldTest {
         Check.due("20 stirs", x.stirs(0, 5), 20);
         x.heat(9);
         Check.due("23 stirs are too many", x.stirs(0, 5), Check.NONE);
+        x.heat(7);
+        Check.due("21 stirs are too many", x.stirs(0, 6), Check.NONE);
         x.hours(1);
         Check.due("burst", x.stirs(0, 1), Check.NONE);
         Check.due("stirs(0, 0)", x.stirs(0, 0), Check.BAD);
@@ -146,6 +148,7 @@ public final class ForetoldTest {
         x.hours(1);
         Check.dueAll("10, one is burst", sliced(x, 10), 7, 0, 3, 0);
         Check.dueAll("999, one is burst", sliced(x, 999), 625, 0, 374, 0);
+        Check.dueAll("one plum each", sliced(Check.hobOf("k0,20;p1,0;s1,0;l0,0;"), 3), 2, 1, 0);
         Check.dueAll("no plums", sliced(Check.hobOf("k0,20;p0,0;s0,0;"), 10), 0, 0);
         Check.due("slices(0, -1)", x.slices(0, -1), Check.BAD);
         Check.due("slices(0, 1000)", x.slices(0, 1000), Check.BAD);
@@ -219,8 +222,13 @@ public final class ForetoldTest {
         chance(x, 1, 1, 4, 9, 25);
         chance(x, 1, 30, 4, 9, 25);
         chance(x, 2, 30, 4, 0, 1);
+        chance(x, 0, 1, 9, 1, 10);
         x.hours(1);
         chance(x, 0, 0, 10, 1, 1);
+        x = Check.hobOf("k0,5;p0,6;p0,3;");
+        chance(x, 0, 1, 2, 4, 5);
+        chance(x, 1, 1, 2, 16, 25);
+        chance(x, 1, 1, 10, 0, 1);
         chance(Check.hobOf("k9,5;p0,30;p0,30;p0,30;p0,30;p0,30;p0,30;p0,30;"), 6, 1, 1, 9, 10);
         int[] wrong = {x.mice(3, 0, 0, 0), x.mice(-1, 0, 0, 0), x.mice(0, -1, 0, 0), x.mice(0, 31, 0, 0),
             x.mice(0, 0, -1, 0), x.mice(0, 0, 11, 0), x.mice(0, 0, 0, 2), x.mice(0, 0, 0, -1)};

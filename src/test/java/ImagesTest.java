@@ -30,10 +30,11 @@ public final class ImagesTest {
         Check.dueAll("swells", Check.swells(x), swells);
         Check.dueAll("plums", Check.ofEach(x, 1), plums);
         Check.dueAll("places", Check.ofEach(x, 2), 2, 1, 0);
-        Check.due("kind", x.kind(2), 3);
+        Check.dueAll("kinds", new int[] {x.kind(0), x.kind(1), x.kind(2)}, 4, 1, 3);
         Check.due("no act can be undone", x.undo(), Check.STATE);
         x.hours(1);
         Check.due("again", x.restore(1), 1);
+        Check.due("the act behind it cannot be undone", x.undo(), Check.STATE);
         Check.dueAll("swells", Check.swells(x), swells);
     }
 
