@@ -1050,6 +1050,7 @@ public final class PuddingHobs {
                 beginTrial();
                 alterTrial(basin, what, v);
                 if (trialIsAsTold(basin, n)) {
+                    // Of cloths, which run past 31, the set is never answered.
                     fitSet |= 1 << v;
                     least = many == 0 ? v : least;
                     many++;

@@ -10,6 +10,7 @@ public final class ForetoldTest {
         hottest();
         slices();
         fits();
+        fitsAtTheGreatestCloth();
         fitsRefused();
         mice();
         drawn();
@@ -178,6 +179,19 @@ public final class ForetoldTest {
         Check.rowOf(x, 5, 2, 0, 23);
         int[] next = {x.fits(1, 5, 1, 1, 3), x.fits(1, 5, 1, 1, 4)};
         Check.dueAll("a cloth that bursts the one beside", next, 10, 20);
+    }
+
+    private static void fitsAtTheGreatestCloth() {
+        PuddingHobs x = Check.hobOf("k5,60;p0,30;");
+        x.hours(5);
+        Check.rowOf(x, 5, 2, 0, 60, 65);
+        Check.dueAll("60 alone", new int[] {x.fits(0, 5, 1, 2, 3), x.fits(0, 5, 1, 2, 4)}, 1, 60);
+        x = Check.hobOf("k1,60;p0,30;");
+        x.hours(1);
+        x.heat(5);
+        x.hours(5);
+        Check.rowOf(x, 5, 2, 0, 61, 66);
+        Check.dueAll("61 is none", new int[] {x.fits(0, 5, 1, 2, 3), x.fits(0, 5, 1, 2, 4)}, 0, Check.NONE);
     }
 
     private static int[] fitted(PuddingHobs x, int n) {
