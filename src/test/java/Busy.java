@@ -42,9 +42,10 @@ final class Busy {
         }
         for (int b = 0; b <= BASINS; b++) {
             lines.add("kind " + b);
-            lines.add("basin " + b + " 5");
-            lines.add("basin " + b + " 6");
             lines.add("place " + b);
+            for (int what = 3; what <= 6; what++) {
+                lines.add("basin " + b + " " + what);
+            }
         }
         picture(lines);
         for (int act = 0; act <= ACTS; act++) {
@@ -53,6 +54,9 @@ final class Busy {
         }
         for (int k = 0; k <= 1; k++) {
             lines.add("restore " + k);
+            for (int b = 0; b < BASINS; b++) {
+                lines.add("kind " + b);
+            }
             picture(lines);
         }
         lines.add("read " + REST_OF_TAPE);

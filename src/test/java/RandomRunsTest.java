@@ -84,10 +84,13 @@ public final class RandomRunsTest {
                 callOf(names.get(random.nextInt(names.size())));
             }
         }
-        both("count", 2);
     }
 
+    /** Of later calls nothing is promised: a text that does not fit into the run any more is cut short. */
     private void both(String name, int... args) {
+        if (left == 0) {
+            return;
+        }
         left--;
         int want = Check.call(model, models.get(name), args);
         Check.due(name + Arrays.toString(args), Check.call(program, methods.get(name), args), want);

@@ -14,6 +14,7 @@ public final class SharesEdgesTest {
         plumsByARow();
         heatsByARow();
         clothsByARow();
+        noClothAboveSixty();
         noneByARow();
         theBurstByARow();
         miceByTenths();
@@ -181,6 +182,16 @@ public final class SharesEdgesTest {
         Check.dueAll("all but 60", new int[] {x.fits(0, 0, 0, 2, 3), x.fits(0, 0, 0, 2, 4)}, 55, 5);
     }
 
+    /** By a cloth of 61 alone it would be so. */
+    private static void noClothAboveSixty() {
+        PuddingHobs x = Check.hobOf("k1,60;p0,30;");
+        x.hours(1);
+        x.heat(5);
+        x.hours(5);
+        Check.rowOf(x, 0, 0, 61, 66);
+        Check.dueAll("none", new int[] {x.fits(0, 0, 0, 2, 3), x.fits(0, 0, 0, 2, 4)}, 0, NONE);
+    }
+
     private static void noneByARow() {
         PuddingHobs x = Check.hobOf("k3,60;s8,1;");
         Check.rowOf(x, 0, 2, -1, 100, MIN, MAX, 256 + 6);
@@ -258,6 +269,8 @@ public final class SharesEdgesTest {
         PuddingHobs x = Check.hobOf("k0,5;p0,6;p0,0;p0,6;");
         chance(x, 1, 1, 5, 1, 4);
         chance(x, 1, 1, 1, 81, 100);
+        x = Check.hobOf("k0,6;p0,7;p0,1;p0,7;");
+        chance(x, 1, 1, 5, 1, 8);
         x = Check.hobOf("k3,5;p0,4;");
         chance(x, 0, 30, 7, 3, 10);
     }
@@ -329,11 +342,13 @@ public final class SharesEdgesTest {
             Check.dueAll("counts", Check.counts(x), counts);
             Check.dueAll("places", Check.ofEach(x, 2), 6, 1, 2, 3, 4, 5, 0);
             Check.dueAll("swells", Check.swells(x), 11, 11, 11, 11, 11, 11, 4);
+            Check.dueAll("kinds", new int[] {x.kind(0), x.kind(6)}, 4, 4);
             x.swap(0, 6);
             x.hours(2);
             x.heat(0);
             Check.due("restore(1)", x.restore(1), 1);
             Check.dueAll("counts", Check.counts(x), 0, 1, 0, 0, 60, 0, 1, 0, 0, 0);
+            Check.due("kind", x.kind(0), 1);
             Check.due("undo()", x.undo(), Check.STATE);
             x.heat(9);
         }

@@ -6,6 +6,7 @@ public final class TapeEdgesTest {
     public static void main(String[] args) {
         theTapeIsFull();
         theTapeIsEmptyThen();
+        nothingIsReadBehindTheEnd();
         everyByteInEveryPlace();
         everyNumber();
         zeroAhead();
@@ -50,6 +51,21 @@ public final class TapeEdgesTest {
         Check.due("a fault", Check.read(x, "k5,20;p3,4;x"), -1000111);
         Check.due("behind a fault", x.count(9), 0);
         Check.due("nothing of it is left", Check.read(x, TEXT), 1);
+    }
+
+    /** What an earlier text left where a shorter one ends does not go on with it. */
+    private static void nothingIsReadBehindTheEnd() {
+        String[] earlier = {"k5,20;p3,45;", "k5,20;p3,4;p1,1;", "k5,20;p3,4000000"};
+        for (String text : earlier) {
+            PuddingHobs x = new PuddingHobs();
+            Check.read(x, text);
+            Check.due("a number at the end, behind " + text, Check.read(x, "k5,20;p3,4"), -1000110);
+            Check.due("fault()", x.fault(), 1);
+            Check.read(x, text);
+            Check.due("a sign at the end, behind " + text, Check.read(x, TEXT), 1);
+            Check.read(x, text);
+            Check.due("nothing, behind " + text, x.hob(), -1000100);
+        }
     }
 
     /** In each place of the text every byte there is; a figure more may make a number too great, or a run of three. */
